@@ -487,6 +487,11 @@ public final class TripleJoins {
             return bySubject.size();
         }
 
+        /** In this order a key is the triple as it is. */
+        Sorted all() {
+            return bySubject;
+        }
+
         boolean holds(int triple) {
             return bySubject.holds(triple);
         }
@@ -928,8 +933,10 @@ public final class TripleJoins {
         private void tryAllTriples(Pattern pattern, Store store, int bound, int row) {
             int mask = pattern.maskWith(bound);
             int value = pattern.valueWith(bound, row);
-            for (int place = 0; place < store.size(); place++) {
-                int triple = store.triple(0, place);
+            Sorted all = store.all();
+            int size = all.size();
+            for (int place = 0; place < size; place++) {
+                int triple = all.key(place);
                 if ((triple & mask) == value) {
                     int wide = pattern.widen(bound, row, triple);
                     if (wide != NO_ROW) {

@@ -352,6 +352,11 @@ public final class PromiseTests {
             dueThrow("count(-1, -1, " + term + ")", () -> x.count(-1, -1, term), BAD);
         }
         due("terms()", x.terms(), 4);
+        x.state(0, 2, 0);
+        due("count(0, -1, -1)", x.count(0, -1, -1), 1);
+        due("count(-1, 0, -1)", x.count(-1, 0, -1), 0);
+        due("count(-1, 2, 0)", x.count(-1, 2, 0), 1);
+        due("count(-1, -1, -1)", x.count(-1, -1, -1), 6);
     }
 
     private static void orderFor(TripleJoins x) {
@@ -477,6 +482,13 @@ public final class PromiseTests {
         dueMatches(x, 3, 2, 1, 0);
         dueMatches(x, 9, -1, -1, 0);
         dueMatches(x, 9, 9, 9, 0);
+        dueMatches(x, 0, -1, -1, 0);
+        dueMatches(x, 1, 0, -1, 0);
+        x.state(0, 1, 0);
+        dueMatches(x, 0, -1, -2, 1);
+        dueMatches(x, -1, 1, 0, 1);
+        dueMatches(x, -1, 0, -2, 0);
+        x.takeBack(0, 1, 0);
         x.addPattern(-1, -2, -3);
         x.addPattern(-1, 2, -3);
         x.takeBack(1, 2, 3);
@@ -523,6 +535,8 @@ public final class PromiseTests {
         dueShape(x, 0, -1, 5, -2, -3, 5, -4, -4, 6, -4);
         dueShape(x, 3, -1, 5, -1, -1, 5, -1, -1, 6, -2);
         dueShape(x, 1, -1, 5, -1, -1, 5, -2, -1, 6, -2);
+        dueShape(x, 0, 0, 5, -2, 0, 5, -3);
+        dueShape(x, 0, -1, 5, 0, 0, 5, -2);
     }
 
     private static void dueShape(TripleJoins x, int want, int... parts) {

@@ -8,7 +8,8 @@ import java.util.Set;
 public final class ModelTests {
 
     private static final int RUNS = 1500;
-    private static final int CALLS = 500;
+    /** The document promises nothing about an object after so many. */
+    private static final int CALLS = 512;
 
     private static final int BAD = 1_000_001;
     private static final int OUT = 1_000_002;
